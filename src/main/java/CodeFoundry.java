@@ -212,9 +212,11 @@ public final class CodeFoundry {
         if (unit == null) {
             return -1;
         }
-        if (!unit.checked) {
-            checker.check(unit);
+        for (int m = 0; !unit.checked && unit.faultMethod < 0 && m < unit.methodCount; m++) {
+            unit.faultAt = checker.firstFault(unit, unit.rowAt(m));
+            unit.faultMethod = unit.faultAt < 0 ? -1 : m;
         }
+        unit.checked = true;
         faultMethod = unit.faultMethod;
         faultAt = unit.faultAt;
         return faultMethod < 0 ? 0 : 1;
@@ -349,7 +351,11 @@ public final class CodeFoundry {
             smith.makeBetter(unit.rowAt(m), rules);
             writer.addMethod(smith.row);
         }
-        return keepDraft();
+        if (!writer.fits()) {
+            return -3;
+        }
+        writer.finish(draft);
+        return keep(reader.unitOf(draft), -3);
     }
 
     public int applied(int r) {
@@ -378,7 +384,11 @@ public final class CodeFoundry {
             next += graph.reachedCount();
             writer.addMethod(smith.row);
         }
-        return keepDraft();
+        if (!writer.fits()) {
+            return -3;
+        }
+        writer.finish(draft);
+        return keep(reader.unitOf(draft), -3);
     }
 
     public int strays() {
@@ -406,15 +416,6 @@ public final class CodeFoundry {
         units[unitCount] = unit;
         unitCount++;
         return unitCount - 1;
-    }
-
-    /** Reads what the writer holds, so that a new file is in every way as if it had been fed. */
-    private int keepDraft() {
-        if (!writer.fits()) {
-            return -3;
-        }
-        writer.finish(draft);
-        return keep(reader.unitOf(draft), -3);
     }
 
     private int countersOf(Unit unit) {
@@ -450,9 +451,15 @@ public final class CodeFoundry {
         }
 
         void putAll(Bytes other) {
-            for (int i = 0; i < other.count; i++) {
-                put(other.data[i]);
+            int room = data.length;
+            for (int k = 0; room < count + other.count && k < 31; k++) {
+                room *= 2;
             }
+            if (room > data.length) {
+                data = Arrays.copyOf(data, room);
+            }
+            System.arraycopy(other.data, 0, data, count, other.count);
+            count += other.count;
         }
 
         int get(int i) {
@@ -460,8 +467,50 @@ public final class CodeFoundry {
         }
     }
 
-    /** What the instructions of a Row do, each by itself. */
+    /** What the instructions of a Row do, each by itself; twenty to a line in the tables. */
     private static final class Ops {
+        private static final int[] LENGTH_OF = {
+            1, 1, 1, 1, 1, 1, 1, 1, 1, 1, 1, 0, 0, 0, 0, 0, 2, 3, 2, 3,
+            3, 2, 2, 0, 0, 2, 1, 1, 1, 1, 1, 1, 1, 1, 0, 0, 0, 0, 0, 0,
+            0, 0, 1, 1, 1, 1, 1, 0, 0, 0, 0, 0, 0, 0, 2, 2, 0, 0, 2, 1,
+            1, 1, 1, 1, 1, 1, 1, 0, 0, 0, 0, 0, 0, 0, 0, 1, 1, 1, 1, 1,
+            0, 0, 0, 0, 0, 0, 0, 1, 1, 1, 1, 0, 1, 0, 0, 1, 1, 1, 0, 0,
+            1, 1, 0, 0, 1, 1, 0, 0, 1, 1, 0, 0, 1, 1, 0, 0, 1, 1, 0, 0,
+            1, 1, 1, 1, 1, 1, 1, 1, 1, 1, 1, 1, 3, 1, 0, 0, 1, 0, 0, 0,
+            0, 0, 0, 0, 0, 1, 1, 1, 1, 0, 0, 0, 0, 3, 3, 3, 3, 3, 3, 3,
+            3, 3, 3, 3, 3, 3, 3, 3, 0, 0, 0, 0, 1, 1, 0, 0, 1, 1, 3, 3,
+            0, 0, 0, 0, 3, 0, 0, 0, 0, 0, 1, 1, 0, 0, 0, 0, 0, 0, 3, 3,
+            5, 0
+        };
+
+        private static final int[] TAKES_OF = {
+            0, 0, 0, 0, 0, 0, 0, 0, 0, 0, 0, 0, 0, 0, 0, 0, 0, 0, 0, 0,
+            0, 0, 0, 0, 0, 0, 0, 0, 0, 0, 0, 0, 0, 0, 0, 0, 0, 0, 0, 0,
+            0, 0, 0, 0, 0, 0, 0x31, 0, 0, 0, 0, 0, 0, 0, 1, 2, 0, 0, 4, 0,
+            0, 0, 0, 0, 0, 0, 0, 0, 0, 0, 0, 0, 0, 0, 0, 0, 0, 0, 0, 0x311,
+            0, 0, 0, 0, 0, 0, 0, 6, 0x66, 6, 0x66, 0, 0x66, 0, 0, 0x66, 0x11, 0x22, 0, 0,
+            0x11, 0x22, 0, 0, 0x11, 0x22, 0, 0, 0x11, 0x22, 0, 0, 0x11, 0x22, 0, 0, 1, 2, 0, 0,
+            0x11, 0x21, 0x11, 0x21, 0x11, 0x21, 0x11, 0x22, 0x11, 0x22, 0x11, 0x22, 0, 1, 0, 0, 2, 0, 0, 0,
+            0, 0, 0, 0, 0, 1, 1, 1, 0x22, 0, 0, 0, 0, 1, 1, 1, 1, 1, 1, 0x11,
+            0x11, 0x11, 0x11, 0x11, 0x11, 0x44, 0x44, 0, 0, 0, 1, 1, 1, 2, 0, 0, 3, 0, 0, 0,
+            0, 0, 0, 0, 0, 0, 0, 0, 1, 0, 3, 5, 0, 0, 0, 0, 0, 0, 4, 4,
+            0, 0
+        };
+
+        private static final int[] GIVES_OF = {
+            0, 7, 0, 0, 0, 0, 0, 0, 0, 0, 0, 0, 0, 0, 0, 0, 0, 1, 0, 0,
+            2, 1, 2, 0, 0, 4, 0, 0, 0, 0, 0, 0, 0, 0, 0, 0, 0, 0, 0, 0,
+            0, 0, 0, 0, 0, 0, 1, 0, 0, 0, 0, 0, 0, 0, 0, 0, 0, 0, 0, 0,
+            0, 0, 0, 0, 0, 0, 0, 0, 0, 0, 0, 0, 0, 0, 0, 0, 0, 0, 0, 0,
+            0, 0, 0, 0, 0, 0, 0, 0, 0, 0, 0, 0, 0, 0, 0, 0, 1, 2, 0, 0,
+            1, 2, 0, 0, 1, 2, 0, 0, 1, 2, 0, 0, 1, 2, 0, 0, 1, 2, 0, 0,
+            1, 2, 1, 2, 1, 2, 1, 2, 1, 2, 1, 2, 0, 2, 0, 0, 1, 0, 0, 0,
+            0, 0, 0, 0, 0, 1, 1, 1, 1, 0, 0, 0, 0, 0, 0, 0, 0, 0, 0, 0,
+            0, 0, 0, 0, 0, 0, 0, 0, 0, 0, 0, 0, 0, 0, 0, 0, 0, 0, 0, 0,
+            0, 0, 0, 0, 0, 0, 0, 0, 3, 0, 1, 0, 0, 0, 0, 0, 0, 0, 0, 0,
+            0, 0
+        };
+
         static boolean isJump(int op) {
             return op >= IF_ZERO && op <= GOTO || op == IF_NULL || op == IF_NOT_NULL;
         }
@@ -506,62 +555,19 @@ public final class CodeFoundry {
             return op == 116 || op == 117 || op == 133 || op == 136 || op >= 145 && op <= 147;
         }
 
-        /** The kinds that an instruction takes, the uppermost in the lowest digit; fields and calls are not here. */
-        static int takes(int op) {
-            switch (op) {
-                case STORE_INT: case TABLE: case LOOKUP: case RETURN_INT: case NEW_INTS: return KIND_INT;
-                case STORE_LONG: case RETURN_LONG: return KIND_LONG;
-                case STORE_REFERENCE: case IF_NULL: case IF_NOT_NULL: return KIND_REFERENCE;
-                case RETURN_INTS: case LENGTH: return KIND_INTS;
-                case THROW: return KIND_ERROR;
-                case POP: case DUP: return KIND_ONE_PLACE;
-                case POP_TWO: case DUP_UNDER: case DUP_TWO: case SWAP: return 0x66;
-                case GET_ELEMENT: return 0x31;
-                case PUT_ELEMENT: return 0x311;
-                case IF_SAME: case IF_NOT_SAME: return 0x44;
-                default: return takesOfNumbers(op);
-            }
+        /** How many bytes an instruction has in a file; 0 if it is none, or one of those with a length of their own. */
+        static int lengthOf(int raw) {
+            return raw < 0 || raw >= LENGTH_OF.length ? 0 : LENGTH_OF[raw];
         }
 
-        private static int takesOfNumbers(int op) {
-            if (op == COMPARE) {
-                return 0x22;
-            }
-            if (isShift(op)) {
-                return (op & 1) == 0 ? 0x11 : 0x21;
-            }
-            if (isBinary(op)) {
-                return (op & 1) == 0 ? 0x11 : 0x22;
-            }
-            if (isUnary(op)) {
-                return op == 117 || op == 136 ? KIND_LONG : KIND_INT;
-            }
-            if (op >= IF_ZERO && op < IF_EQUAL) {
-                return KIND_INT;
-            }
-            return op >= IF_EQUAL && op < IF_SAME ? 0x11 : 0;
+        /** The kinds that an instruction takes, the uppermost in the lowest digit; fields and calls are not here. */
+        static int takes(int op) {
+            return op < 0 || op >= TAKES_OF.length ? 0 : TAKES_OF[op];
         }
 
         /** The kind that an instruction gives, 0 none; copies, fields and calls are not here. */
         static int gives(int op) {
-            switch (op) {
-                case PUSH_NULL: return KIND_NULL;
-                case LOAD_REFERENCE: return KIND_REFERENCE;
-                case NEW_INTS: return KIND_INTS;
-                case PUSH_INT: case LOAD_INT: case GET_ELEMENT: case LENGTH: case COMPARE: return KIND_INT;
-                case PUSH_LONG: case LOAD_LONG: return KIND_LONG;
-                default: return givesOfNumbers(op);
-            }
-        }
-
-        private static int givesOfNumbers(int op) {
-            if (isBinary(op)) {
-                return (op & 1) == 0 ? KIND_INT : KIND_LONG;
-            }
-            if (isUnary(op)) {
-                return op == 117 || op == 133 ? KIND_LONG : KIND_INT;
-            }
-            return 0;
+            return op < 0 || op >= GIVES_OF.length ? 0 : GIVES_OF[op];
         }
 
         static int placesOf(int kinds) {
@@ -955,7 +961,8 @@ public final class CodeFoundry {
             brokenRule = 0;
             brokenPlace = -1;
             p = 0;
-            return partsFit() && entriesPoint() && flagsHold() && headHolds() && namesHold() && typesHold()
+            return magicHolds() && poolFits() && headFits() && fieldsFit() && methodsFit() && fileAttributesFit()
+                    && entriesPoint() && flagsHold() && headHolds() && namesHold() && typesHold()
                     && noTwins() && codesHold() && (p == end || breaks(17, p));
         }
 
@@ -971,11 +978,17 @@ public final class CodeFoundry {
         }
 
         int u2(int at) {
-            return u1(at) << 8 | u1(at + 1);
+            if (at < 0 || at > end - 2 || end > data.length) {
+                return 0;
+            }
+            return (data[at] & 255) << 8 | data[at + 1] & 255;
         }
 
         int s4(int at) {
-            return u2(at) << 16 | u2(at + 2);
+            if (at < 0 || at > end - 4 || end > data.length) {
+                return 0;
+            }
+            return data[at] << 24 | (data[at + 1] & 255) << 16 | (data[at + 2] & 255) << 8 | data[at + 3] & 255;
         }
 
         long u4(int at) {
@@ -984,10 +997,6 @@ public final class CodeFoundry {
 
         private boolean isThere(int n) {
             return n <= end - p || breaks(2, end);
-        }
-
-        private boolean partsFit() {
-            return magicHolds() && poolFits() && headFits() && fieldsFit() && methodsFit() && fileAttributesFit();
         }
 
         private boolean magicHolds() {
@@ -1300,11 +1309,11 @@ public final class CodeFoundry {
         }
 
         boolean isSameName(int a, int b) {
-            if (nameLength(a) != nameLength(b)) {
-                return false;
-            }
-            for (int i = 0; i < nameLength(a); i++) {
-                if (nameSign(a, i) != nameSign(b, i)) {
+            int atA = entryAt(a);
+            int atB = entryAt(b);
+            int length = u2(atA + 1);
+            for (int i = 1; i < 3 + length; i++) {
+                if (u1(atA + i) != u1(atB + i)) {
                     return false;
                 }
             }
@@ -1381,7 +1390,12 @@ public final class CodeFoundry {
             if (!file.isSound(source) || !limitsHold() || !instructionsHold() || !pointersHold()) {
                 return null;
             }
-            return build();
+            Unit unit = build();
+            for (int m = 0; m < unit.rows.length; m++) {
+                unit.rows[m] = rowOf(m);
+                unit.instructions += unit.rows[m].count;
+            }
+            return unit;
         }
 
         private boolean limitsHold() {
@@ -1466,16 +1480,12 @@ public final class CodeFoundry {
             return o < 0 || o >= size ? 0 : file.u1(code + o);
         }
 
-        private int s2(int o) {
-            return (short) (u1(o) << 8 | u1(o + 1));
-        }
-
         private int u2(int o) {
-            return u1(o) << 8 | u1(o + 1);
+            return o < 0 || o > size - 2 ? 0 : file.u2(code + o);
         }
 
         private int s4(int o) {
-            return u2(o) << 16 | u2(o + 2);
+            return o < 0 || o > size - 4 ? 0 : file.s4(code + o);
         }
 
         /** How many bytes the instruction at an offset has; 0 if it is none, or not whole. */
@@ -1486,30 +1496,9 @@ public final class CodeFoundry {
                 case LOOKUP: length = lookupLength(o); break;
                 case RAW_WIDE: length = wideLength(u1(o + 1)); break;
                 case NEW_INTS: length = u1(o + 1) == 10 ? 2 : 0; break;
-                default: length = plainLength(u1(o)); break;
+                default: length = Ops.lengthOf(u1(o)); break;
             }
             return o + length > size ? 0 : length;
-        }
-
-        private static int plainLength(int raw) {
-            if (isAlone(raw)) {
-                return 1;
-            }
-            if (raw == RAW_PUSH_BYTE || raw == RAW_POOL_BYTE || Ops.isLoad(raw) || Ops.isStore(raw)) {
-                return 2;
-            }
-            if (raw == PUSH_INT || raw == RAW_POOL_INT || raw == PUSH_LONG || raw == GROW || Ops.isJump(raw)
-                    || raw == GET_FIELD || raw == PUT_FIELD || raw == CALL) {
-                return 3;
-            }
-            return raw == RAW_GOTO_FAR ? 5 : 0;
-        }
-
-        private static boolean isAlone(int raw) {
-            return raw <= 10 || raw >= 26 && raw <= 33 || raw >= 42 && raw <= 46 || raw >= 59 && raw <= 66
-                    || raw >= 75 && raw <= 79 || raw >= POP && raw <= DUP_UNDER || raw == DUP_TWO || raw == SWAP
-                    || Ops.isBinary(raw) || Ops.isUnary(raw) || raw == RETURN_INT || raw == RETURN_LONG
-                    || raw == RETURN_INTS || raw == RETURN || raw == LENGTH || raw == THROW;
         }
 
         private static int wideLength(int raw) {
@@ -1560,16 +1549,16 @@ public final class CodeFoundry {
             } else if (raw == RAW_PUSH_BYTE) {
                 set(PUSH_INT, (byte) u1(o + 1));
             } else if (raw == PUSH_INT) {
-                set(PUSH_INT, s2(o + 1));
+                set(PUSH_INT, (short) u2(o + 1));
             } else if (raw == RAW_POOL_BYTE) {
                 set(RAW_POOL_INT, u1(o + 1));
             } else if (raw == RAW_GOTO_FAR) {
                 set(GOTO, (long) o + s4(o + 1));
             } else if (Ops.isJump(raw)) {
-                set(raw, o + s2(o + 1));
+                set(raw, o + (short) u2(o + 1));
             } else if (Ops.isSwitch(raw)) {
                 set(raw, numbersOf(o));
-            } else if (plainLength(raw) == 3 && raw != GROW) {
+            } else if (Ops.lengthOf(raw) == 3 && raw != GROW) {
                 set(raw, u2(o + 1));
             } else {
                 decodeLocal(o);
@@ -1586,7 +1575,7 @@ public final class CodeFoundry {
             if (raw == RAW_WIDE) {
                 int k = u2(o + 2);
                 // a local beyond any bound must not look like a low one with a step
-                set(u1(o + 1), k > 255 ? 255 : u1(o + 1) == GROW ? (long) s2(o + 4) << 8 | k : k);
+                set(u1(o + 1), k > 255 ? 255 : u1(o + 1) == GROW ? (long) (short) u2(o + 4) << 8 | k : k);
             } else if (raw == GROW) {
                 set(GROW, (long) (byte) u1(o + 2) << 8 | u1(o + 1));
             } else if (Ops.usesLocal(raw)) {
@@ -1690,7 +1679,7 @@ public final class CodeFoundry {
                     && errorOf(file.u2(at + 6)) >= ANY_ERROR;
         }
 
-        /** The error that a catch's CLASS means: ANY_ERROR for 0, less if it is none. */
+        /** The error that a handler's CLASS means: ANY_ERROR for 0, less if it is none. */
         private int errorOf(int entry) {
             if (entry == 0) {
                 return ANY_ERROR;
@@ -1724,6 +1713,7 @@ public final class CodeFoundry {
             return -1;
         }
 
+        /** The file without the rows of its methods. */
         private Unit build() {
             Unit unit = new Unit(Arrays.copyOf(file.data, file.end), file.fieldCount, file.methodCount);
             unit.poolCount = file.poolCount;
@@ -1741,8 +1731,6 @@ public final class CodeFoundry {
                 file.isMethodType(file.typeOf(k));
                 unit.methodTakes[m] = file.takes;
                 unit.methodGives[m] = file.gives;
-                unit.rows[m] = rowOf(m);
-                unit.instructions += unit.rows[m].count;
             }
             return unit;
         }
@@ -1826,7 +1814,7 @@ public final class CodeFoundry {
         private Row row;
         private int limit;
         private boolean changed;
-        /** The most places that an instruction leaves, or that a catch wants. */
+        /** The most places that an instruction leaves, or that its handlers want. */
         int most;
 
         void seek(Unit newUnit, Row newRow, int newLimit) {
@@ -1923,20 +1911,13 @@ public final class CodeFoundry {
         private Unit unit;
         private Row row;
 
-        void check(Unit newUnit) {
-            unit = newUnit;
-            for (int m = 0; m < unit.methodCount && unit.faultMethod < 0; m++) {
-                row = unit.rowAt(m);
-                int fault = row == null ? -1 : firstFault();
-                if (fault >= 0) {
-                    unit.faultMethod = m;
-                    unit.faultAt = fault;
-                }
+        /** The first instruction of a method that has a fault, -1 none; then its row keeps what was found. */
+        int firstFault(Unit newUnit, Row newRow) {
+            if (newRow == null) {
+                return -1;
             }
-            unit.checked = true;
-        }
-
-        private int firstFault() {
+            unit = newUnit;
+            row = newRow;
             heights.seek(unit, row, row.maxStack);
             makeRoom(row.count);
             beginBody();
@@ -2094,13 +2075,18 @@ public final class CodeFoundry {
         }
 
         private int pop() {
-            top = Math.max(0, top - 1);
-            return placeAt(MOST_PLACES + top);
+            if (top < 1 || top > MOST_PLACES) {
+                return NONE;
+            }
+            top--;
+            return now[MOST_PLACES + top];
         }
 
         private void push(int type) {
-            setPlace(MOST_PLACES + top, type);
-            top = Math.min(MOST_PLACES, top + 1);
+            if (top >= 0 && top < MOST_PLACES) {
+                now[MOST_PLACES + top] = (byte) type;
+                top++;
+            }
         }
 
         private static boolean isReference(int type) {
@@ -2108,7 +2094,7 @@ public final class CodeFoundry {
         }
 
         private static boolean isOnePlace(int type) {
-            return type == INT || isReference(type);
+            return type == INT || type == INTS || type == ERROR || type == NULL;
         }
 
         /** Takes a value of a kind from the stack, and answers the type of its place. */
@@ -2225,8 +2211,10 @@ public final class CodeFoundry {
         private Unit unit;
         private int codeName;
         private int ownClass;
-        /** The pool's numbers of the fields' and methods' entries, 0 as long as none needed them. */
-        private final int[] fieldEntry = new int[2 * MOST_MEMBERS];
+        /** The pool's numbers of the fields' names, types and entries, and of the methods' entries; 0 not yet needed. */
+        private final int[] fieldName = new int[MOST_MEMBERS];
+        private final int[] fieldType = new int[MOST_MEMBERS];
+        private final int[] fieldEntry = new int[MOST_MEMBERS];
         private final int[] methodEntry = new int[MOST_MEMBERS];
         private final Heights heights = new Heights();
         private Row row;
@@ -2252,8 +2240,11 @@ public final class CodeFoundry {
             rest.put2(0);
             int fields = unit.fieldCount + counters;
             rest.put2(fields);
-            for (int k = 0; k < fields; k++) {
-                putMember(fieldNameEntry(k), fieldTypeEntry(k), 0);
+            for (int k = 0; k < fields && k < MOST_MEMBERS; k++) {
+                boolean isOld = k < unit.fieldName.length;
+                fieldName[k] = isOld ? nameEntry(unit.fieldName[k]) : counterEntry(k - unit.fieldName.length);
+                fieldType[k] = isOld ? nameEntry(unit.fieldType[k]) : textEntry("J");
+                putMember(fieldName[k], fieldType[k], 0);
             }
             rest.put2(unit.methodCount);
         }
@@ -2306,11 +2297,12 @@ public final class CodeFoundry {
 
         private boolean isWanted(int k) {
             int start = entryAt[k];
-            if (entryEnd[k] - start != wanted.count) {
+            int length = entryEnd[k] - start;
+            if (length != wanted.count || start < 0 || entryEnd[k] > pool.data.length) {
                 return false;
             }
-            for (int i = 0; i < wanted.count; i++) {
-                if (pool.get(start + i) != wanted.get(i)) {
+            for (int i = 0; i < length && i < wanted.data.length; i++) {
+                if (pool.data[start + i] != wanted.data[i]) {
                     return false;
                 }
             }
@@ -2370,14 +2362,6 @@ public final class CodeFoundry {
             return entryOfWanted();
         }
 
-        private int fieldNameEntry(int k) {
-            return k < unit.fieldName.length ? nameEntry(unit.fieldName[k]) : counterEntry(k - unit.fieldName.length);
-        }
-
-        private int fieldTypeEntry(int k) {
-            return k < unit.fieldType.length ? nameEntry(unit.fieldType[k]) : textEntry("J");
-        }
-
         private int counterEntry(int k) {
             want(TAG_NAME);
             wanted.put2(k < 10 ? 2 : 3);
@@ -2394,8 +2378,8 @@ public final class CodeFoundry {
                 return 0;
             }
             if (fieldEntry[k] == 0) {
-                int name = fieldNameEntry(k);
-                fieldEntry[k] = pointersEntry(TAG_FIELD, ownClass, pointersEntry(TAG_PAIR, name, fieldTypeEntry(k)));
+                int pair = pointersEntry(TAG_PAIR, fieldName[k], fieldType[k]);
+                fieldEntry[k] = pointersEntry(TAG_FIELD, ownClass, pair);
             }
             return fieldEntry[k];
         }
@@ -3385,7 +3369,7 @@ public final class CodeFoundry {
         private static final int ROOM = MOST_CODE + COUNTER * MOST_MEMBERS;
         Row row = new Row(0, 0, 0);
         private final int[] applied = new int[LAST_RULE + 1];
-        /** Whether a jump or a catch points to an instruction; whether it is reached; its live locals, a bit each. */
+        /** Whether a jump or a handler points to an instruction; whether it is reached; its live locals, a bit each. */
         private boolean[] marked = new boolean[0];
         private boolean[] reached = new boolean[0];
         private int[] live = new int[0];
@@ -3464,28 +3448,24 @@ public final class CodeFoundry {
 
         private boolean goThrough(int r) {
             boolean changed = false;
-            lookAround(r);
+            boolean isStale = true;
             int i = 0;
             for (int looks = 0; i < row.count && looks < MANY; looks++) {
-                if (isDone(r, i)) {
+                if (isStale && (r == 10 || r == 11)) {
+                    findLive();
+                }
+                if (isStale && r >= 5 && r <= 10) {
+                    findMarked();
+                }
+                isStale = isDone(r, i);
+                if (isStale) {
                     applied[r]++;
                     changed = true;
-                    lookAround(r);
                 } else {
                     i++;
                 }
             }
             return changed;
-        }
-
-        /** Finds out what rule r must know of the whole row. */
-        private void lookAround(int r) {
-            if (r == 10 || r == 11) {
-                findLive();
-            }
-            if (r >= 5 && r <= 10) {
-                findMarked();
-            }
         }
 
         /** Whether rule r did something at place i. */
@@ -3630,7 +3610,8 @@ public final class CodeFoundry {
                 return false;
             }
             putPush(i, Ops.gives(op), Ops.binary(op, row.argAt(i), row.argAt(i + 1)));
-            return isDropped(i + 1, 2);
+            row.remove(i + 1, 2);
+            return true;
         }
 
         private boolean isUnaryFolded(int i) {
@@ -3639,30 +3620,27 @@ public final class CodeFoundry {
                 return false;
             }
             putPush(i, Ops.gives(op), Ops.unary(op, row.argAt(i)));
-            return isDropped(i + 1, 1);
+            row.remove(i + 1, 1);
+            return true;
         }
 
         private boolean isJumpDecided(int i) {
             if (pushKind(i) != KIND_INT) {
                 return false;
             }
-            int one = row.opAt(i + 1);
-            int two = row.opAt(i + 2);
-            if (one >= IF_ZERO && one < IF_EQUAL && isWindow(i, 2)) {
-                return isDecided(i, 2, Ops.isTaken(one, (int) row.argAt(i), 0));
+            int n = pushKind(i + 1) == KIND_INT ? 3 : 2;
+            int op = row.opAt(i + n - 1);
+            int first = n == 3 ? IF_EQUAL : IF_ZERO;
+            if (op < first || op >= first + 6 || !isWindow(i, n)) {
+                return false;
             }
-            if (pushKind(i + 1) == KIND_INT && two >= IF_EQUAL && two < IF_SAME && isWindow(i, 3)) {
-                return isDecided(i, 3, Ops.isTaken(two, (int) row.argAt(i), (int) row.argAt(i + 1)));
+            if (Ops.isTaken(op, (int) row.argAt(i), n == 3 ? (int) row.argAt(i + 1) : 0)) {
+                row.set(i, GOTO, row.argAt(i + n - 1));
+                row.remove(i + 1, n - 1);
+            } else {
+                row.remove(i, n);
             }
-            return false;
-        }
-
-        private boolean isDecided(int i, int n, boolean taken) {
-            if (!taken) {
-                return isDropped(i, n);
-            }
-            row.set(i, GOTO, row.argAt(i + n - 1));
-            return isDropped(i + 1, n - 1);
+            return true;
         }
 
         private boolean isNeutral(int i) {
@@ -3709,9 +3687,10 @@ public final class CodeFoundry {
                 return false;
             }
             if (op == GROW) {
-                return isDropped(i, 1);
+                row.remove(i, 1);
+            } else {
+                row.set(i, op == STORE_LONG ? POP_TWO : POP, 0);
             }
-            row.set(i, op == STORE_LONG ? POP_TWO : POP, 0);
             return true;
         }
 
