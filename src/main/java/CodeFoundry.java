@@ -2211,7 +2211,7 @@ public final class CodeFoundry {
         private Unit unit;
         private int codeName;
         private int ownClass;
-        /** The pool's numbers of the fields' names, types and entries, and of the methods' entries; 0 not yet needed. */
+        /** The pool's numbers of the fields' names, types and entries, and of the methods' entries; 0 not yet. */
         private final int[] fieldName = new int[MOST_MEMBERS];
         private final int[] fieldType = new int[MOST_MEMBERS];
         private final int[] fieldEntry = new int[MOST_MEMBERS];
@@ -3010,7 +3010,9 @@ public final class CodeFoundry {
                 heap = Arrays.copyOf(heap, Math.min(MOST_ELEMENTS, 2 * (heapUsed + length)));
             }
             arrayAt[arrays] = heapUsed;
-            Arrays.fill(heap, heapUsed, heapUsed + length, 0);
+            for (int i = heapUsed; i < heapUsed + length && i < heap.length; i++) {
+                heap[i] = 0;
+            }
             heapUsed += length;
             push(arrays);
             pc++;
