@@ -1,5 +1,6 @@
 import java.io.ByteArrayOutputStream;
 import java.util.ArrayList;
+import java.util.Arrays;
 import java.util.LinkedHashMap;
 import java.util.List;
 import java.util.Map;
@@ -70,12 +71,70 @@ final class Kit {
         return b;
     }
 
+    /** Bytes as a file: the rule that it breaks and its place, or 0 and -1. */
+    static void broken(String what, byte[] b, int rule, int place) {
+        CodeFoundry x = new CodeFoundry();
+        due(what + ": file()", file(x, b), rule == 0 ? 0 : -1);
+        due(what + ": rule()", x.rule(), rule);
+        due(what + ": place()", x.place(), place);
+    }
+
+    static void sound(String what, byte[] b) {
+        broken(what, b, 0, -1);
+    }
+
+    static byte[] insert(byte[] b, int place, int... values) {
+        byte[] c = Arrays.copyOf(b, b.length + values.length);
+        System.arraycopy(b, place, c, place + values.length, b.length - place);
+        return with(c, place, values);
+    }
+
     static byte[] with(byte[] b, int place, int... values) {
         byte[] c = b.clone();
         for (int i = 0; i < values.length; i++) {
             c[place + i] = (byte) values[i];
         }
         return c;
+    }
+
+    /** Numbers of one, two and four bytes, and names, one behind the other. */
+    static final class Raw {
+        private final ByteArrayOutputStream out = new ByteArrayOutputStream();
+
+        int at() {
+            return out.size();
+        }
+
+        Raw u1(int... values) {
+            return put(1, values);
+        }
+
+        Raw u2(int... values) {
+            return put(2, values);
+        }
+
+        Raw u4(int... values) {
+            return put(4, values);
+        }
+
+        Raw name(String s) {
+            u1(1).u2(s.length());
+            for (char c : s.toCharArray()) {
+                u1(c);
+            }
+            return this;
+        }
+
+        private Raw put(int n, int[] values) {
+            for (int v : values) {
+                Kit.put(out, n, v);
+            }
+            return this;
+        }
+
+        byte[] bytes() {
+            return out.toByteArray();
+        }
     }
 
     /** A class file that grows; marks tell where its parts stand. */

@@ -19,14 +19,11 @@ public final class ReadTest {
     }
 
     private static void broken(String what, byte[] b, int rule, int place) {
-        CodeFoundry x = new CodeFoundry();
-        Kit.due(what + ": file()", Kit.file(x, b), rule == 0 ? 0 : -1);
-        Kit.due(what + ": rule()", x.rule(), rule);
-        Kit.due(what + ": place()", x.place(), place);
+        Kit.broken(what, b, rule, place);
     }
 
     private static void sound(String what, byte[] b) {
-        broken(what, b, 0, -1);
+        Kit.sound(what, b);
     }
 
     private static Kit.Klass plain() {
@@ -37,9 +34,7 @@ public final class ReadTest {
     }
 
     private static byte[] insert(byte[] b, int place, int... values) {
-        byte[] c = Arrays.copyOf(b, b.length + values.length);
-        System.arraycopy(b, place, c, place + values.length, b.length - place);
-        return Kit.with(c, place, values);
+        return Kit.insert(b, place, values);
     }
 
     private static void newObject() {
