@@ -24,16 +24,16 @@ public final class ImproveTest {
         Kit.finish("ImproveTest");
     }
 
-    private static Kit.Klass klass(String code, String... handlers) {
+    static Kit.Klass klass(String code, String... handlers) {
         return new Kit.Klass().field("i", "I").field("l", "J").method("m", "(IJ)V", 12, 12, code, handlers);
     }
 
     /** What the rules make of the code of a method, and how often each did something (rule, times, ..). */
-    private static void better(int rules, String before, String after, int... applied) {
+    static void better(int rules, String before, String after, int... applied) {
         better(rules, klass(before), klass(after), applied);
     }
 
-    private static void better(int rules, Kit.Klass before, Kit.Klass after, int... applied) {
+    static void better(int rules, Kit.Klass before, Kit.Klass after, int... applied) {
         CodeFoundry x = Kit.checked(before);
         String what = "improve(0, " + rules + ")";
         Kit.due(what, x.improve(0, rules), 1);
