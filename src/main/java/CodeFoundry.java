@@ -686,7 +686,6 @@ public final class CodeFoundry {
         int[] catchKind;
         int catchCount;
         int maxStack;
-        int maxLocals;
         /** Which method of its file this is. */
         int number;
         /** What checking found before each instruction: height (-1 not come to) and types, a hex digit for each. */
@@ -1741,7 +1740,6 @@ public final class CodeFoundry {
             Row row = new Row(instructions, tableRoom(), catchCount);
             row.number = m;
             row.maxStack = maxStack;
-            row.maxLocals = maxLocals;
             for (int o = 0; o < size; o += Math.max(1, lengthAt(o))) {
                 decode(o);
                 addTo(row);

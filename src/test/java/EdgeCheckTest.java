@@ -131,6 +131,22 @@ public final class EdgeCheckTest {
         locals(x, 0, LOW, HIGH, LOW, HIGH, LOW, HIGH, LOW, HIGH, NONE);
         x = fault(-1, "()V", 0, 0, "177");
         locals(x, 0, NONE, NONE);
+        // "all else NONE", whatever the method before, or the file before, left there
+        x = new CodeFoundry();
+        Kit.Klass k = new Kit.Klass().method("a", "(I)V", 2, 9, "9; 55 3; 4; 54 6; 1; 58 7; 0; 177")
+                .method("b", "(J)V", 2, 9, "177").method("c", "()V", 2, 9, "21 6; 177");
+        Kit.due("file()", Kit.file(x, k.bytes()), 0);
+        Kit.due("verify(0)", x.verify(0), 1);
+        Kit.due("method()", x.method(), 2);
+        Kit.due("at()", x.at(), 0);
+        Kit.Klass two = new Kit.Klass().method("a", "(I)V", 2, 9, "9; 55 3; 4; 54 6; 1; 58 7; 0; 177")
+                .method("b", "(J)V", 2, 9, "177");
+        Kit.due("file()", Kit.file(x, two.bytes()), 1);
+        Kit.due("verify(1)", x.verify(1), 0);
+        int[] second = {LOW, HIGH, NONE, NONE, NONE, NONE, NONE, NONE, NONE};
+        for (int j = 0; j < second.length; j++) {
+            Kit.due("local(1, 1, 0, " + j + ")", x.local(1, 1, 0, j), second[j]);
+        }
     }
 
     private static String store(char sort) {
@@ -197,6 +213,17 @@ public final class EdgeCheckTest {
                 fault(type == LOW ? -1 : at, TYPE, 4, 12, code + "63; 177", HANDLER);
             }
         }
+        // what comes back goes on from where it came to, as often as it changes something
+        fault(4, "(I)V", 4, 4, "4; 60; a: 0; 0; 27; 87; 1; 76; 167 @a");
+        CodeFoundry x = fault(-1, "(I)V", 4, 4, "4; 60; a: 0; 0; 0; 1; 76; 167 @a");
+        for (int i = 2; i < 5; i++) {
+            locals(x, i, INT, NONE);
+        }
+        fault(6, "(I)V", 4, 6, "4; 54 5; 4; 54 4; a: 21 4; 87; 21 5; 54 4; 1; 58 5; 167 @a");
+        x = fault(-1, "(I)V", 4, 6, "1; 58 1; 1; 58 2; 1; 58 3; a: 25 2; 58 1; 25 3; 58 2; 4; 188 10; 58 3; 26; 153 @a; "
+                + "177");
+        locals(x, 6, INT, INTS, INTS, INTS);
+        locals(x, 15, INT, INTS, INTS, INTS);
         // halves joined with others of one place are none
         fault(7, "(I)V", 4, 4, "26; 153 @u; 9; 167 @v; u: 4; 5; 0; v: 88; 177");
         fault(7, "(I)V", 4, 4, "26; 153 @u; 9; 167 @v; u: 4; 5; 0; v: 92; 177");
@@ -292,6 +319,9 @@ public final class EdgeCheckTest {
         locals(x, 5, INT, NONE, INT, NONE);
         x = fault(-1, "(I)V", 4, 6, "4; 54 2; a: 1; 58 2; 0; b: 177; h: 58 3; 177", "a b h 0");
         locals(x, 6, INT, NONE, NONE, NONE);
+        // what is before it, not what the one before it in the row left
+        x = fault(-1, "(I)V", 4, 6, "26; 153 @a; 4; 60; 177; a: 0; b: 177; h: 87; 177", "a b h 0");
+        locals(x, 7, INT, NONE, NONE);
         // TO itself is not in the range, FROM is
         x = fault(-1, "(I)V", 4, 6, "a: 4; b: 54 2; c: 0; 177; h: 87; 177", "b c h 0");
         locals(x, 4, INT, NONE, NONE);

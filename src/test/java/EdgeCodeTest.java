@@ -7,6 +7,7 @@ public final class EdgeCodeTest {
         codeLength();
         atMostSixteenCatches();
         noItemBeyondCode();
+        shortCode();
         methodByMethod();
         everyOpcode();
         wideForms();
@@ -54,6 +55,13 @@ public final class EdgeCodeTest {
             }
         }
         Kit.broken("both, from the left", Kit.with(b, at, 0, 25, 0, 25), 13, at);
+        // each method by its own parameters
+        Kit.Klass three = klass("()V", 0, 0, "177").method("n", "(JJ)V", 0, 4, "177").method("o", "(I)V", 0, 1, "177");
+        byte[] c = three.bytes();
+        Kit.sound("each as many as it has", c);
+        Kit.broken("one less", Kit.with(c, three.mark("stack1") + 3, 3), 13, three.mark("stack1") + 2);
+        Kit.broken("one less", Kit.with(c, three.mark("stack2") + 3, 0), 13, three.mark("stack2") + 2);
+        Kit.sound("one more", Kit.with(c, three.mark("stack2") + 3, 2));
     }
 
     /** "n is 1 .. 1200 (at the U4)". */
@@ -126,6 +134,31 @@ public final class EdgeCodeTest {
         Kit.broken("a catch more", Kit.with(c, k.mark("catches0") + 1, 3), 14, longer);
         Kit.broken("16 catches", Kit.with(c, k.mark("catches0") + 1, 16), 14, longer);
         Kit.broken("1200 bytes of code", Kit.with(c, stack + 4, 0, 0, 4, 176), 14, longer);
+    }
+
+    /** Code of so few bytes: an item that is there is looked at, one that is not is told, whatever stands behind. */
+    private static void shortCode() {
+        int[][] codes = {{}, {1}, {0, 25}, {0, 24}, {0, 0, 1}, {0, 0, 0, 25}, {0, 0, 0, 24}, {0, 0, 0, 0, 9},
+            {0, 0, 0, 0, 9, 9, 9}, {0, 0, 0, 0, 0, 0, 0, 0}, {0, 0, 0, 0, 0, 0, 4, 177}, {0, 0, 0, 0, 0, 0, 4, 176},
+            {0, 0, 0, 0, 0, 0, 0, 1}, {0, 0, 0, 0, 0, 0, 0, 1, 177}, {0, 0, 0, 0, 0, 0, 0, 1, 177, 1},
+            {0, 0, 0, 0, 0, 0, 0, 1, 177, 0, 17}, {0, 0, 0, 0, 0, 0, 0, 1, 177, 0, 16},
+            {0, 0, 0, 0, 0, 0, 0, 1, 177, 0, 0}, {0, 0, 0, 0, 0, 0, 0, 1, 177, 0, 0, 0},
+            {0, 0, 0, 0, 0, 0, 0, 1, 177, 0, 0, 0, 1}, {0, 0, 0, 0, 0, 0, 0, 1, 177, 0, 0, 0, 0}};
+        // the rule, and how far from the beginning of Code
+        int[][] due = {{14, 0}, {14, 1}, {13, 0}, {14, 2}, {14, 3}, {13, 2}, {14, 4}, {14, 5}, {14, 7}, {13, 4}, {13, 4},
+            {14, 8}, {14, 8}, {14, 9}, {14, 10}, {13, 9}, {14, 11}, {14, 11}, {14, 12}, {14, 13}, {0, 0}};
+        for (int i = 0; i < codes.length; i++) {
+            Kit.Raw raw = new Kit.Raw().u1(202, 254, 186, 190).u2(0, 49, 300).name("A").u1(7).u2(1).name("Code")
+                    .name("m").name("()V");
+            for (int k = 6; k < 300; k++) {
+                raw.name("n" + k);
+            }
+            raw.u2(33, 2, 2, 0, 0, 1, 9, 4, 5, 2, 3).u4(codes[i].length);
+            int at = raw.at();
+            // an attribute behind it whose number and length would be too large for any item of Code
+            byte[] b = raw.u1(codes[i]).u2(299).u4(2).u1(255, 255).u2(0).bytes();
+            Kit.broken("Code " + Arrays.toString(codes[i]), b, due[i][0], due[i][0] == 0 ? -1 : at + due[i][1]);
+        }
     }
 
     private static byte[] sized(byte[] b, int stack, int n) {
@@ -513,6 +546,17 @@ public final class EdgeCodeTest {
         for (int v : new int[] {other, longer, shorter}) {
             Kit.broken("another class", Kit.with(b, code + 1, v >> 8, v), 16, code);
         }
+        // an int with the bytes of a METHOD, or of a FIELD, is none
+        Kit.Klass l = klass("()V", 4, 0, "178 field:x:I; 87; 184 call:m:()V; 177");
+        int likeField = l.intEntry(l.classEntry("Main") << 16 | l.pairEntry("x", "I"));
+        int likeMethod = l.intEntry(l.classEntry("Main") << 16 | l.pairEntry("m", "()V"));
+        int likePair = l.pairEntry("x", "I");
+        byte[] c = l.bytes();
+        int at = l.mark("code0");
+        Kit.sound("as it is", c);
+        Kit.broken("an int like a FIELD", Kit.with(c, at + 1, 0, likeField), 16, at);
+        Kit.broken("an int like a METHOD", Kit.with(c, at + 5, 0, likeMethod), 16, at + 4);
+        Kit.broken("a PAIR", Kit.with(c, at + 1, 0, likePair), 16, at);
         Kit.broken("the class above is another one", Kit.with(b, k.mark("entry" + again) + 2, k.classEntry("Top")),
                 0, -1);
         Kit.broken("and so is its method", Kit.with(Kit.with(b, k.mark("entry" + again) + 2, k.classEntry("Top")),

@@ -100,6 +100,24 @@ public final class EdgeCountTest {
         counted(new Kit.Klass().method("m", "(I)V", 4, 1, "177; f: 0; t: 0; 177; h: 191; e:", "f t h 0", "t e h 0"),
                 new Kit.Klass().field("c0", "J").method("m", "(I)V", 5, 1, counter(0)
                         + "177; f: 0; t: 0; 177; h: 191; e:", "f t h 0", "t e h 0"));
+        // method by method, with switches and catches in some of them
+        Kit.Klass before = new Kit.Klass();
+        Kit.Klass after = new Kit.Klass();
+        for (int k = 0; k < 12; k++) {
+            after.field("c" + k, "J");
+        }
+        String[] codes = {"26; 170 @b 0 @a; a: 0; b: 177", "f: 0; t: 177; h: 87; 177", "26; 171 @b 5 @a; a: 0; b: 177",
+            "177", "26; 153 @a; a: 177"};
+        String[] counted = {counter(0) + "26; 170 @b 0 @a; a: " + counter(1) + "0; b: " + counter(2) + "177",
+            "f: " + counter(3) + "0; t: " + counter(4) + "177; h: " + counter(5) + "87; 177",
+            counter(6) + "26; 171 @b 5 @a; a: " + counter(7) + "0; b: " + counter(8) + "177", counter(9) + "177",
+            counter(10) + "26; 153 @a; a: " + counter(11) + "177"};
+        for (int m = 0; m < codes.length; m++) {
+            String[] catches = codes[m].startsWith("f:") ? new String[] {"f t h 0"} : new String[0];
+            before.method("m" + m, "(I)V", 4, 1, codes[m], catches);
+            after.method("m" + m, "(I)V", 5, 1, counted[m], catches);
+        }
+        counted(before, after);
         String[] handlers = new String[16];
         Arrays.fill(handlers, "f t f SizeError");
         counted(new Kit.Klass().method("m", "(I)V", 1, 1, "0; 167 @e; f: 191; t: 0; e: 177", handlers),
@@ -182,7 +200,7 @@ public final class EdgeCountTest {
 
     /** At most 500 numbers in the pool. */
     private static void pool() {
-        for (int n = 486; n <= 490; n++) {
+        for (int n = 483; n <= 487; n++) {
             Kit.Klass k = new Kit.Klass();
             int left = n;
             for (int m = 0; m < 2; m++) {

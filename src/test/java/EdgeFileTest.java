@@ -261,8 +261,23 @@ public final class EdgeFileTest {
                 check(b, "method's pair to " + k, method + 3, k, false, method);
             }
         }
+        // the first entry of all
+        byte[] c = tail(head(4).u1(7).u2(2).name("A").u1(7).u2(2), 1, 1);
+        Kit.sound("entry 1 a CLASS", c);
+        for (int v : new int[] {0, 1, 3, 4}) {
+            Kit.broken("entry 1 to " + v, Kit.with(c, 12, v), 6, 10);
+        }
         check(b, "class to 257", 14, 257, false, 14);
         check(b, "class to 65535", 14, 65535, false, 14);
+        // what an earlier file had under a number is not there in a later one
+        CodeFoundry x = new CodeFoundry();
+        Kit.due("file()", Kit.file(x, tail(classes(head(6)).u1(3).u4(0).u1(7).u2(1).name("B"), 2, 4)), 0);
+        byte[] gap = tail(classes(head(6)).u1(5).u4(0x07000107, 0x01070001).u1(7).u2(4), 2, 2);
+        Kit.due("file()", Kit.file(x, gap), -1);
+        Kit.due("rule()", x.rule(), 6);
+        Kit.due("file()", Kit.file(x, Kit.with(tail(classes(head(5)).u1(5).u4(0x07000107, 0x01070001), 2, 4),
+                26, 0)), -1);
+        Kit.due("rule()", x.rule(), 8);
         // from the left
         Kit.broken("two of them", Kit.with(Kit.with(b, method + 2, 0), pair + 2, 0), 6, pair);
         Kit.broken("the first and the last", Kit.with(Kit.with(b, method + 2, 0), 16, 3), 6, 14);
@@ -357,7 +372,7 @@ public final class EdgeFileTest {
         }
         for (String t : new String[] {"I", "V", "(", ")", "()", "(V)V", "(I", "(I)", "I)V", "(I)VV", "(I)II", "(I)I(",
             "()[", "()[V", "()[J", "([)V", "([[I)V", "()()V", "((I)V", "(I))V", "(IIIIIIIII)V", "(JJJJI)V", "(IJJJJ)V",
-            "(JJJJJ)V", "([IJJJJ)V", "[I()V", "(I)IJ", "()[II", "(I,I)V"}) {
+            "(JJJJJ)V", "([IJJJJ)V", "[I()V", "(I)IJ", "()[II", "(I,I)V", "(VV", "(xI", "(IxJ", "([V", "(]V", "(Ix[I", "(JV", "(,V", "x)V", "xV"}) {
             Kit.Klass k = new Kit.Klass().method("w", "()V", 0, 0, "177").method("x", t, 0, 9, "177");
             byte[] b = k.bytes();
             Kit.broken("method " + t, b, 10, k.mark("method1") + 4);
@@ -387,6 +402,13 @@ public final class EdgeFileTest {
             int method = m.memberEntry(10, "Main", "x", t);
             byte[] c = m.bytes();
             Kit.broken("METHOD with " + t, c, methods ? 0 : 10, methods ? -1 : m.mark("entry" + method));
+        }
+        // the first entry of all, a FIELD and a METHOD
+        for (int tag : new int[] {9, 10}) {
+            byte[] c = tail(head(6).u1(tag).u2(3, 4).name("A").u1(7).u2(2).u1(12).u2(2, 5).name(tag == 9 ? "J" : "()J"),
+                    3, 3);
+            Kit.sound("entry 1", c);
+            Kit.broken("entry 1 with a name that is no type", Kit.with(c, c.length - 15, 'x'), 10, 10);
         }
         // entries stand left of the fields
         Kit.Klass k = new Kit.Klass().field("a", "V");

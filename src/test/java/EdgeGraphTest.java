@@ -65,6 +65,8 @@ public final class EdgeGraphTest {
         begin("0; 170 @a 0 @b @c; 0; a: 0; 0; b: 0; 0; c: 0; 177", null, 0, 2, 3, 5, 7);
         begin("0; 171 @a 1 @b 2 @c; 0; a: 0; 0; b: 0; 0; c: 0; 177", null, 0, 2, 3, 5, 7);
         begin("0; a: 0; 171 @a", null, 0, 1);
+        begin("170 @a 0 @b @b; a: 0; b: 177", null, 0, 1, 2);
+        begin("171 @a 4 @b 5 @b; a: 0; b: 177", null, 0, 1, 2);
         for (String end : new String[] {"172", "173", "176", "177", "191"}) {
             begin("0; " + end + "; 0; 177", null, 0, 2);
             begin("0; " + end, null, 0);
@@ -282,9 +284,11 @@ public final class EdgeGraphTest {
         // a small one drawn behind a large one, and the large one again
         CodeFoundry z = new CodeFoundry();
         Kit.Klass k = new Kit.Klass().method("a", "(I)V", 1, 1, "z: 26; 153 @z; 177")
-                .method("b", "()V", 1, 0, code + "177").method("c", "()V", 1, 0, "177");
+                .method("b", "()V", 1, 0, code + "177").method("c", "()V", 1, 0, "177")
+                .method("d", "(I)V", 1, 1, "a: 26; 153 @e; b: 26; 153 @b; 167 @a; e: 177")
+                .method("e", "(I)V", 1, 1, "0; b: 26; 153 @b; 177").method("f", "(I)V", 1, 1, "z: 26; 153 @z; 177");
         Kit.due("file()", Kit.file(z, k.bytes()), 0);
-        for (int round = 0; round < 2; round++) {
+        for (int round = 0; round < 4; round++) {
             Kit.due("blocks(0, 0)", z.blocks(0, 0), 2);
             Kit.due("head", z.block(0, 0, 0, 3), 1);
             Kit.due("depth", z.block(0, 0, 0, 4), 1);
@@ -293,6 +297,19 @@ public final class EdgeGraphTest {
             Kit.due("dominator", z.block(0, 1, 200, 2), 199);
             Kit.due("blocks(0, 2)", z.blocks(0, 2), 1);
             Kit.due("edge(0, 2, 0, 1)", z.edge(0, 2, 0, 1), false);
+            for (int b = 0; b < 5; b++) {
+                Kit.due("edge(0, 2, 1, b)", z.edge(0, 2, 1, b), false);
+                Kit.due("edge(0, 0, 2, b)", z.edge(0, 0, 2, b), false);
+            }
+            for (int f = 0; f < 3; f++) {
+                // loops drawn again and again, behind others
+                int m = 3 + (round + f) % 3;
+                int[][] depths = {{1, 2, 1, 0}, {0, 1, 0}, {1, 0}};
+                for (int b = 0; b < depths[m - 3].length; b++) {
+                    Kit.due("depth", z.block(0, m, b, 4), depths[m - 3][b]);
+                    Kit.due("head", z.block(0, m, b, 3), m == 3 && b < 2 || m == 4 && b == 1 || m == 5 && b == 0 ? 1 : 0);
+                }
+            }
             Kit.due("edge(0, 0, 0, 0)", z.edge(0, 0, 0, 0), true);
         }
     }

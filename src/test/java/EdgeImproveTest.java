@@ -1,3 +1,5 @@
+import java.util.Arrays;
+
 /** The edges of term 6, MAKING BETTER, and of promises 28 and 29. */
 public final class EdgeImproveTest {
     private static final int ALL = 2047;
@@ -6,6 +8,7 @@ public final class EdgeImproveTest {
         fiftyRounds();
         theSamePlaceAgain();
         rulesByNumber();
+        rowByRow();
         windows();
         theLast();
         handedOn();
@@ -100,6 +103,51 @@ public final class EdgeImproveTest {
         }
     }
 
+    /** Each row by itself: marks, live places, switches and catches of one method are not those of the next. */
+    private static void rowByRow() {
+        String[][] methods = {
+            {"f: 26; 170 @c 3 @d @c; b: 0; c: 0; d: 0; t: 177; h: 87; 177", "f t h 0", "f b h 0"},
+            {"4; 5; 96; 116; 87; 26; 87; 3; 153 @a; 0; a: 26; 3; 96; 87; 177"},
+            {"26; 171 @x 7 @y 9 @x; x: 0; 0; y: 177"},
+            {"4; 54 5; a: 21 5; 87; 21 5; 87; 167 @a"},
+            {"4; 54 5; a: 0; 0; 0; 0; 167 @a"},
+            {"f: 26; 87; t: 177; h: 191", "f t h 0"},
+            {"26; 153 @b; 167 @a; b: 4; 5; 96; 87; a: 177"},
+            {"0; 0; 0; 4; 5; 96; 87; 177"},
+            {"26; 54 5; 21 5; 54 6; 132 0 1; 177; 0"},
+            {"0; 26; 170 @x 1 @x; x: 177"}};
+        int[] sets = {ALL, 0, 1, 2, 4, 8, 16, 32, 64, 128, 256, 512, 1024, 1 | 64, 4 | 8, 256 | 1024};
+        for (int rules : sets) {
+            Kit.Klass all = new Kit.Klass();
+            Kit.Klass back = new Kit.Klass();
+            int n = methods.length;
+            for (int m = 0; m < n; m++) {
+                add(all, m, methods[m]);
+                add(back, m, methods[n - 1 - m]);
+            }
+            byte[] on = made(all, rules);
+            byte[] round = made(back, rules);
+            for (int m = 0; m < n; m++) {
+                Kit.Klass alone = new Kit.Klass();
+                add(alone, 0, methods[m]);
+                byte[] want = Kit.codeOf(made(alone, rules), 0);
+                Kit.due(rules + ": method " + m, Arrays.equals(Kit.codeOf(on, m), want), true);
+                Kit.due(rules + ": method " + m, Arrays.equals(Kit.codeOf(round, n - 1 - m), want), true);
+            }
+        }
+    }
+
+    private static void add(Kit.Klass k, int m, String[] method) {
+        k.method("m" + m, "(I)V", 4, 9, method[0], Arrays.copyOfRange(method, 1, method.length));
+    }
+
+    private static byte[] made(Kit.Klass k, int rules) {
+        CodeFoundry x = Kit.checked(k);
+        Kit.due("improve", x.improve(0, rules), 1);
+        Kit.due("verify(1)", x.verify(1), 0);
+        return Kit.written(x, 1);
+    }
+
     /** Windows: the rule, then the instructions one behind the other. */
     private static final String[][] WINDOWS = {
         {"5", "4", "5", "96"}, {"5", "10", "10", "97"}, {"6", "4", "116"}, {"6", "4", "133"}, {"7", "3", "153 @a"},
@@ -168,6 +216,9 @@ public final class EdgeImproveTest {
         better(bit(1), "177; 0", "177", 1, 1);
         better(bit(2), "167 @c; a: 177; b: 167 @a; c: 167 @b", "167 @a; a: 177; b: 167 @a; c: 167 @a", 2, 2);
         better(bit(2), "a: 177; b: 167 @a; 26; 171 @b", "a: 177; b: 167 @a; 26; 171 @a", 2, 1);
+        // a jump of the first of the row marks as well
+        same(bit(5), "167 @b; 4; 5; b: 4; 177");
+        same(bit(9), "167 @b; 4; b: 0; 177");
         // a row of one
         same(ALL, "177");
         better(ALL, "a: 167 @a", "a: 167 @a");
@@ -243,6 +294,10 @@ public final class EdgeImproveTest {
             String after = end.equals("1; 191") ? end : end.replace("200", "167") + "; e: 177";
             better(bit(1), end + "; 0; 4; 87; e: 177", after, 1, end.equals("1; 191") ? 4 : 3);
         }
+        // back and on again, as often as it takes
+        same(bit(1), "167 @b; a: 0; 167 @c; b: 167 @a; d: 177; c: 167 @d");
+        better(bit(1), "167 @b; a: 0; 167 @c; 0; b: 167 @a; d: 177; 0; c: 167 @d",
+                "167 @b; a: 0; 167 @c; b: 167 @a; d: 177; c: 167 @d", 1, 2);
         // a loop that is not reached goes as a whole, jumps out of it too
         better(bit(1), "177; a: 26; 153 @a; 167 @b; b: 177", "177", 1, 4);
         // AT by the last of a range, not by what stands behind it
@@ -662,7 +717,7 @@ public final class EdgeImproveTest {
 
     /** Ints that are folded need the pool: 500 numbers are taken, 501 are not. */
     private static void poolTooLarge() {
-        for (int n = 490; n <= 494; n++) {
+        for (int n = 487; n <= 491; n++) {
             Kit.Klass k = new Kit.Klass();
             int left = n;
             for (int m = 0; left > 0; m++) {

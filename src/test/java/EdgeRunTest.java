@@ -173,6 +173,13 @@ public final class EdgeRunTest {
                 run(x, m, 0, want[m][i], values[i]);
             }
         }
+        // numbers that are also places of instructions: of the targets, of the default, of the switch
+        CodeFoundry z = Kit.staged(klass("(I)I", 1, 1, "26; 171 @d 0 @a 1 @b 2 @c 4 @a 6 @b 8 @c; d: 3; 172; a: 4; 172; "
+                + "b: 5; 172; c: 6; 172"));
+        int[] numbers = {0, 1, 1, 2, 2, 3, 3, 0, 4, 1, 5, 0, 6, 2, 7, 0, 8, 3, 9, 0};
+        for (int i = 0; i < numbers.length; i += 2) {
+            run(z, 0, 0, numbers[i + 1], numbers[i]);
+        }
         StringBuilder table = new StringBuilder("26; 170 @d -100");
         for (int i = 0; i <= 200; i++) {
             table.append(i % 2 == 0 ? " @a" : " @b");

@@ -15,6 +15,7 @@ public final class EdgeWriteTest {
         leastStack();
         leastLocals();
         leftOut();
+        oneBehindTheOther();
         fullPool();
         Kit.finish("EdgeWriteTest");
     }
@@ -77,37 +78,17 @@ public final class EdgeWriteTest {
         Kit.due("written files are files", Kit.file(y, b), 0);
         Kit.due("and without a fault", y.verify(0), 0);
         Kit.due("and are written so", Arrays.equals(Kit.written(y, 0), b), true);
-        int at = methodsAt(b) + 2 + 8 + 6;
-        int size = u2(b, at + 6);
+        byte[] all = Kit.codeOf(b, 0);
+        int size = u2(all, 6);
         int[] code = new int[size];
         for (int i = 0; i < size; i++) {
-            code[i] = b[at + 8 + i] & 255;
+            code[i] = all[8 + i] & 255;
         }
         return code;
     }
 
     private static int u2(byte[] b, int at) {
-        return (b[at] & 255) << 8 | b[at + 1] & 255;
-    }
-
-    /** Where the pool of a file ends. */
-    private static int poolEnd(byte[] b) {
-        int at = 10;
-        int n = u2(b, 8);
-        for (int k = 1; k < n; k++) {
-            switch (b[at]) {
-                case 1: at += 3 + u2(b, at + 1); break;
-                case 7: at += 3; break;
-                case 5: at += 9; k++; break;
-                default: at += 5; break;
-            }
-        }
-        return at;
-    }
-
-    private static int methodsAt(byte[] b) {
-        int at = poolEnd(b) + 8;
-        return at + 2 + 8 * u2(b, at);
+        return Kit.u2(b, at);
     }
 
     private static void form(String text, int... want) {
@@ -348,8 +329,8 @@ public final class EdgeWriteTest {
 
     private static int[] limits(Kit.Klass k) {
         byte[] b = Kit.written(Kit.checked(k), 0);
-        int at = methodsAt(b) + 2 + 8 + 6;
-        return new int[] {u2(b, at), u2(b, at + 2)};
+        byte[] all = Kit.codeOf(b, 0);
+        return new int[] {u2(all, 0), u2(all, 2)};
     }
 
     /** "MOST STACK and MOST LOCALS are the least that do". */
@@ -412,9 +393,32 @@ public final class EdgeWriteTest {
         }
     }
 
+    /** Files one behind the other: what was needed by one is not taken for what the next one needs. */
+    private static void oneBehindTheOther() {
+        Kit.Klass[] klasses = {
+            new Kit.Klass("A", "B").field("x", "I").field("y", "J").method("a", "()V", 2, 0,
+                    "184 call:b:()V; 178 field:x:I; 87; 178 field:y:J; 88; 19 int:70000; 87; 177")
+                    .method("b", "()V", 2, 0, "184 call:a:()V; 20 long:7; 88; 177"),
+            new Kit.Klass("Other", "Top").field("p", "J").method("m", "(I)I", 2, 1, "20 long:9; 88; 178 field:p:J; 88; "
+                    + "26; 184 call:n:(I)I; 172").method("n", "(I)I", 2, 1, "26; 184 call:m:(I)I; 172"),
+            new Kit.Klass("C", "C").method("z", "()V", 1, 0, "f: 184 call:z:()V; t: 177; h: 87; 177", "f t h NullError"),
+            new Kit.Klass("D", "E")};
+        CodeFoundry x = new CodeFoundry();
+        byte[][] alone = new byte[klasses.length][];
+        for (int k = 0; k < klasses.length; k++) {
+            alone[k] = Kit.written(Kit.checked(klasses[k]), 0);
+            Kit.due("file()", Kit.file(x, klasses[k].bytes()), k);
+            Kit.due("verify", x.verify(k), 0);
+        }
+        int[] order = {0, 1, 2, 3, 2, 1, 0, 3, 0, 2, 0, 1, 3, 1};
+        for (int f : order) {
+            Kit.due("as alone", Arrays.equals(Kit.written(x, f), alone[f]), true);
+        }
+    }
+
     /** A pool of 500 that is all needed is written as a pool of 500. */
     private static void fullPool() {
-        for (int ints = 488; ints <= 489; ints++) {
+        for (int ints = 489; ints <= 490; ints++) {
             Kit.Klass k = new Kit.Klass();
             int left = ints;
             for (int m = 0; m < 3; m++) {
@@ -425,11 +429,11 @@ public final class EdgeWriteTest {
                 }
                 k.method("m" + m, "()V", 1, 0, code + "177");
             }
-            if (ints < 489) {
+            if (ints < 490) {
                 k.nameEntry("spare");
             }
             CodeFoundry x = Kit.checked(k);
-            Kit.due("size(0, 2)", x.size(0, 2), 10 + 489);
+            Kit.due("size(0, 2)", x.size(0, 2), 500);
             byte[] b = Kit.written(x, 0);
             Kit.due("written", u2(b, 8), 10 + ints);
             CodeFoundry y = new CodeFoundry();

@@ -89,6 +89,35 @@ final class Kit {
         return with(c, place, values);
     }
 
+    static int u2(byte[] b, int at) {
+        return (b[at] & 255) << 8 | b[at + 1] & 255;
+    }
+
+    /** Where the pool of a file ends. */
+    static int poolEnd(byte[] b) {
+        int at = 10;
+        int n = u2(b, 8);
+        for (int k = 1; k < n; k++) {
+            switch (b[at]) {
+                case 1: at += 3 + u2(b, at + 1); break;
+                case 7: at += 3; break;
+                case 5: at += 9; k++; break;
+                default: at += 5; break;
+            }
+        }
+        return at;
+    }
+
+    /** All that stands in the attribute Code of method m of a file as it is written. */
+    static byte[] codeOf(byte[] b, int m) {
+        int at = poolEnd(b) + 8;
+        at += 2 + 8 * u2(b, at) + 2;
+        for (int k = 0; k < m; k++) {
+            at += 14 + u2(b, at + 12);
+        }
+        return Arrays.copyOfRange(b, at + 14, at + 14 + u2(b, at + 12));
+    }
+
     static byte[] with(byte[] b, int place, int... values) {
         byte[] c = b.clone();
         for (int i = 0; i < values.length; i++) {
