@@ -66,7 +66,7 @@ public final class SameRunsTest {
         for (int r = 0; r < 4; r++) {
             long a = random.nextInt(7) - 3;
             long b = random.nextInt(7) - 3;
-            String want = told(x, 0, a, b, 3);
+            String want = told(x, 0, a, b, 3000);
             if (want.startsWith("2")) {
                 continue;
             }
@@ -74,10 +74,10 @@ public final class SameRunsTest {
             for (int f : files) {
                 if (f >= 0) {
                     Kit.due("verify(" + f + ")", x.verify(f), 0);
-                    Kit.due("file " + f + " runs as " + want, told(x, f, a, b, 3).equals(want), true);
+                    Kit.due("file " + f + " runs as " + want, told(x, f, a, b, 50000).equals(want), true);
                 }
             }
-            Kit.due("written runs as " + want, told(y, 0, a, b, 3).equals(want), true);
+            Kit.due("written runs as " + want, told(y, 0, a, b, 3000).equals(want), true);
         }
         Kit.due("strays()", x.strays(), 0);
         // as it stands, and better for good: nothing is left to be done
@@ -91,15 +91,15 @@ public final class SameRunsTest {
         return runs;
     }
 
-    /** All that a run tells on a new stage: outcome, result, error, the three fields, the arrays. */
-    private static String told(CodeFoundry x, int f, long a, long b, int fields) {
+    /** All that a run tells on a new stage (counters want more fuel): outcome, result, error, the three fields, the arrays. */
+    private static String told(CodeFoundry x, int f, long a, long b, int fuel) {
         Kit.due("stage", x.stage(f), true);
         x.argument(a);
         x.argument(b);
         x.argument(0);
         StringBuilder told = new StringBuilder();
-        told.append(x.run(0, 3000)).append(" ").append(x.result()).append(" ").append(x.error());
-        for (int k = 0; k < fields; k++) {
+        told.append(x.run(0, fuel)).append(" ").append(x.result()).append(" ").append(x.error());
+        for (int k = 0; k < 3; k++) {
             told.append(" ").append(x.field(k));
         }
         for (int n = 1; n <= 5; n++) {
