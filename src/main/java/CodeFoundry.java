@@ -103,8 +103,6 @@ public final class CodeFoundry {
     private static final int TABLE = 170;
     private static final int LOOKUP = 171;
     private static final int RETURN_INT = 172;
-    private static final int RETURN_LONG = 173;
-    private static final int RETURN_INTS = 176;
     private static final int RETURN = 177;
     private static final int GET_FIELD = 178;
     private static final int PUT_FIELD = 179;

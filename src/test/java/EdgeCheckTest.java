@@ -140,12 +140,13 @@ public final class EdgeCheckTest {
         Kit.due("method()", x.method(), 2);
         Kit.due("at()", x.at(), 0);
         Kit.Klass two = new Kit.Klass().method("a", "(I)V", 2, 9, "9; 55 3; 4; 54 6; 1; 58 7; 0; 177")
-                .method("b", "(J)V", 2, 9, "177");
+                .method("b", "(J)V", 2, 9, "177").method("c", "()V", 2, 9, "177");
         Kit.due("file()", Kit.file(x, two.bytes()), 1);
         Kit.due("verify(1)", x.verify(1), 0);
         int[] second = {LOW, HIGH, NONE, NONE, NONE, NONE, NONE, NONE, NONE};
         for (int j = 0; j < second.length; j++) {
             Kit.due("local(1, 1, 0, " + j + ")", x.local(1, 1, 0, j), second[j]);
+            Kit.due("local(1, 2, 0, " + j + ")", x.local(1, 2, 0, j), NONE);
         }
     }
 

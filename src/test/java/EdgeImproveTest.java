@@ -217,8 +217,7 @@ public final class EdgeImproveTest {
         better(bit(2), "167 @c; a: 177; b: 167 @a; c: 167 @b", "167 @a; a: 177; b: 167 @a; c: 167 @a", 2, 2);
         better(bit(2), "a: 177; b: 167 @a; 26; 171 @b", "a: 177; b: 167 @a; 26; 171 @a", 2, 1);
         // a jump of the first of the row marks as well
-        same(bit(5), "167 @b; 4; 5; b: 4; 177");
-        same(bit(9), "167 @b; 4; b: 0; 177");
+        same(bit(10), "167 @b; 54 0; b: 21 0; 87; 177");
         // a row of one
         same(ALL, "177");
         better(ALL, "a: 167 @a", "a: 167 @a");
