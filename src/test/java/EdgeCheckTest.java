@@ -289,9 +289,9 @@ public final class EdgeCheckTest {
             CodeFoundry x = fault(-1, "()" + t[0], 4, 4, t[1] + "; 87; 87; 177");
             Kit.due(type, x.height(0, 0, 2), -1);
         }
-        String[] jumps = {"26; 153 @z", "26; 158 @z", "26; 26; 159 @z", "26; 26; 164 @z", "43; 43; 165 @z",
-            "43; 43; 166 @z", "43; 198 @z", "43; 199 @z"};
-        for (String jump : jumps) {
+        for (int op = 153; op <= 199; op = op == 166 ? 198 : op + 1) {
+            String one = op >= 165 ? "43; " : "26; ";
+            String jump = (op >= 159 && op <= 166 ? one + one : one) + op + " @z";
             int n = jump.split(";").length;
             CodeFoundry x = fault(-1, "(I[I)V", 4, 4, jump + "; 4; 87; 177; z: 177");
             Kit.due(jump + ": behind it", x.height(0, 0, n), 0);
