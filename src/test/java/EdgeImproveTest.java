@@ -708,7 +708,7 @@ public final class EdgeImproveTest {
         Kit.due("-1 before -2", x.improve(0, 2048), -1);
         Kit.due("-1 before -2", x.improve(1, 0), -1);
         Kit.due("-1 before -2", x.improve(12, 0), -1);
-        Kit.due("still there", x.length(11, 0), x.length(11, 0));
+        Kit.due("the twelfth is there", x.length(11, 0), 1);
         Kit.due("no more", x.size(12, 0), -1);
         poolTooLarge();
         codeTooLong();
