@@ -10,6 +10,7 @@ public final class EdgeCountTest {
         namesThatAreThere();
         codeAndStack();
         pool();
+        poolWithCatch();
         refusals();
         sixteenTimes();
         counts();
@@ -217,6 +218,29 @@ public final class EdgeCountTest {
             Kit.due(n + " ints", x.count(0), good ? 1 : -3);
             Kit.due("size(1, 2)", x.size(1, 2), good ? 14 + n + 1 : -1);
             Kit.due("without counters", x.improve(0, 0), good ? 2 : 1);
+        }
+    }
+
+    /** The same, where the CLASS of a catch comes last: it is not left out, nor is its number 0. */
+    private static void poolWithCatch() {
+        for (int n = 474; n <= 480; n++) {
+            Kit.Klass k = new Kit.Klass();
+            int left = n;
+            for (int m = 0; m < 2; m++) {
+                StringBuilder code = new StringBuilder();
+                for (int i = 0; i < 250 && left > 0; i++) {
+                    code.append("19 int:").append(100000 + left).append("; 87; ");
+                    left--;
+                }
+                String[] handlers = m == 0 ? new String[0] : new String[] {"f t f SizeError"};
+                k.method(m == 0 ? "a" : "J", "()V", 5, 0, m == 0 ? code + "177" : code + "1; f: 87; t: 177", handlers);
+            }
+            CodeFoundry x = Kit.checked(k);
+            int blocks = x.blocks(0, 0) + x.blocks(0, 1);
+            // Code, two names, two classes, a, ()V, J; a name, a PAIR and a FIELD for each counter; a NAME and a CLASS
+            int numbers = 8 + 3 * blocks + n + 2 + 1;
+            Kit.due(n + " ints and a CLASS", x.count(0), numbers <= 500 ? 1 : -3);
+            Kit.due("size(1, 2)", x.size(1, 2), numbers <= 500 ? numbers : -1);
         }
     }
 

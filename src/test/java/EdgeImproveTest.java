@@ -711,6 +711,7 @@ public final class EdgeImproveTest {
         Kit.due("the twelfth is there", x.length(11, 0), 1);
         Kit.due("no more", x.size(12, 0), -1);
         poolTooLarge();
+        poolTooLargeForCatch();
         codeTooLong();
     }
 
@@ -733,6 +734,27 @@ public final class EdgeImproveTest {
             Kit.due(n + " ints", x.improve(0, bit(5)), fits ? 1 : -3);
             Kit.due("applied(5)", x.applied(5), n);
             Kit.due("size(1, 2)", x.size(1, 2), fits ? 10 + n + 1 : -1);
+        }
+    }
+
+    /** The same, where the CLASS of a catch comes last: it is not left out, nor is its number 0. */
+    private static void poolTooLargeForCatch() {
+        for (int n = 484; n <= 490; n++) {
+            Kit.Klass k = new Kit.Klass();
+            int left = n;
+            for (int m = 0; left > 0; m++) {
+                StringBuilder code = new StringBuilder();
+                for (int i = 0; i < 148 && left > 0; i++) {
+                    code.append("17 ").append(20000 + left).append("; 17 20000; 104; 87; ");
+                    left--;
+                }
+                String[] handlers = left > 0 ? new String[0] : new String[] {"f t h DivideError"};
+                k.method("m" + m, "()V", 2, 0, "f: " + code + "t: 177; h: 87; 177", handlers);
+            }
+            CodeFoundry x = Kit.checked(k);
+            boolean fits = 12 + n + 1 <= 500;
+            Kit.due(n + " ints and a CLASS", x.improve(0, bit(5)), fits ? 1 : -3);
+            Kit.due("size(1, 2)", x.size(1, 2), fits ? 12 + n + 1 : -1);
         }
     }
 
