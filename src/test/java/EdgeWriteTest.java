@@ -16,6 +16,7 @@ public final class EdgeWriteTest {
         leastLocals();
         leftOut();
         oneBehindTheOther();
+        secondNumbers();
         fullPool();
         Kit.finish("EdgeWriteTest");
     }
@@ -413,6 +414,28 @@ public final class EdgeWriteTest {
         int[] order = {0, 1, 2, 3, 2, 1, 0, 3, 0, 2, 0, 1, 3, 1};
         for (int f : order) {
             Kit.due("as alone", Arrays.equals(Kit.written(x, f), alone[f]), true);
+        }
+    }
+
+    /** "a long; the next number is no entry": nor is it the one that an earlier file had there. */
+    private static void secondNumbers() {
+        int threes = 0x03030303;
+        String push = "20 long:" + 0x0303030303030303L + "; 88; ";
+        String[] codes = {push + "19 int:" + threes + "; 87; 177",
+            push + "19 int:70000; 87; 19 int:" + threes + "; 87; 177", push + "19 int:70000; 87; 19 int:70000; 87; 177",
+            push + "20 long:" + 0x0303030303030304L + "; 88; 19 int:" + threes + "; 87; 177"};
+        for (int letters = 1; letters <= 8; letters++) {
+            Kit.Klass first = new Kit.Klass().method("m", "()V", 2, 0, "177")
+                    .method("longname".substring(0, letters), "()V", 2, 0, "19 int:80000; 87; 19 int:90000; 87; 177");
+            for (String code : codes) {
+                Kit.Klass second = new Kit.Klass().method("m", "()V", 2, 0, code);
+                byte[] alone = Kit.written(Kit.checked(second), 0);
+                CodeFoundry x = Kit.checked(first);
+                Kit.due("write(0)", x.write(0) > 0, true);
+                Kit.due("file()", Kit.file(x, second.bytes()), 1);
+                Kit.due("verify(1)", x.verify(1), 0);
+                Kit.due("as alone", Arrays.equals(Kit.written(x, 1), alone), true);
+            }
         }
     }
 
