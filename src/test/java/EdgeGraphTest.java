@@ -15,6 +15,7 @@ public final class EdgeGraphTest {
         longChains();
         deepNests();
         manyBlocks();
+        twiceAsMany();
         largeByTheWords();
         answers();
         Kit.finish("EdgeGraphTest");
@@ -312,6 +313,38 @@ public final class EdgeGraphTest {
             }
             Kit.due("edge(0, 0, 0, 0)", z.edge(0, 0, 0, 0), true);
         }
+    }
+
+    /** A chain of n blocks, then one of about twice as many: rows that were made for the first are used again. */
+    private static void twiceAsMany() {
+        for (int n = 1; n <= 70; n++) {
+            for (int more = -1; more <= 1; more++) {
+                int many = 2 * n + more;
+                CodeFoundry x = new CodeFoundry();
+                Kit.Klass k = new Kit.Klass().method("a", "()V", 0, 0, chain(n)).method("b", "()V", 0, 0, chain(many))
+                        .method("c", "()V", 0, 0, chain(many).replace("177", "167 @L0"));
+                Kit.due("file()", Kit.file(x, k.bytes()), 0);
+                Kit.due("blocks(0, 0)", x.blocks(0, 0), n);
+                Kit.due("blocks(0, 1)", x.blocks(0, 1), many);
+                Kit.due("the last begins", x.block(0, 1, many - 1, 0), many - 1);
+                Kit.due("it is reached", x.block(0, 1, many - 1, 1), 1);
+                Kit.due("its dominator", x.block(0, 1, many - 1, 2), many - 2);
+                Kit.due("it has no edge", x.block(0, 1, many - 1, 5), 0);
+                Kit.due("none behind it", x.block(0, 1, many, 0), -1);
+                Kit.due("back to the first", x.edge(0, 2, many - 1, 0), true);
+                Kit.due("the last is in the loop", x.block(0, 2, many - 1, 4), 1);
+                Kit.due("blocks(0, 0)", x.blocks(0, 0), n);
+            }
+        }
+    }
+
+    /** n instructions, each a block: gotos to the next one, and a return. */
+    private static String chain(int n) {
+        StringBuilder code = new StringBuilder("L0: ");
+        for (int b = 1; b < n; b++) {
+            code.append("167 @L").append(b).append("; L").append(b).append(": ");
+        }
+        return code + "177";
     }
 
     /** Large graphs by chance, worked out from the words alone. */

@@ -23,6 +23,7 @@ public final class EdgeImproveTest {
         passedOn();
         deadStores();
         liveLongs();
+        leastLive();
         liveWays();
         refusals();
         asWrittenAndRead();
@@ -642,6 +643,27 @@ public final class EdgeImproveTest {
         better(bit(10), "177; 55 5; 22 5; 21 7; 0; 177", "177; 21 7; 0; 177", 10, 1);
         better(bit(10), "177; 54 5; 21 5; 22 6; 0; 177", "177; 22 6; 0; 177", 10, 1);
         better(bit(10), "177; 54 5; 21 5; 55 4; 22 4; 0; 177", "177; 0; 177", 10, 2);
+    }
+
+    /** "LIVE, the least such": what goes round and round without a load makes no place live. */
+    private static void leastLive() {
+        for (int k = 0; k < 8; k++) {
+            String[] loops = {"l: 167 @l", "l: 0; 167 @l", "l: 26; 153 @l; 167 @l"};
+            for (String loop : k == 0 ? Arrays.copyOf(loops, 2) : loops) {
+                better(bit(11), "4; 54 " + k + "; " + loop, "4; 87; " + loop, 11, 1);
+                better(bit(10), "4; 54 " + k + "; 21 " + k + "; 87; " + loop, "4; 87; " + loop, 10, 1);
+            }
+            if (k < 7) {
+                better(bit(11), "10; 55 " + k + "; l: 0; 167 @l", "10; 88; l: 0; 167 @l", 11, 1);
+            }
+        }
+        ImproveTest.better(bit(11), klass("4; 54 5; f: l: 0; 167 @l; t: h: 87; 167 @l", "f t h 0"),
+                klass("4; 87; f: l: 0; 167 @l; t: h: 87; 167 @l", "f t h 0"), 11, 1);
+        same(bit(11), "4; 54 5; l: 0; 21 5; 87; 167 @l");
+        // a last one that goes on, to nothing
+        for (int k = 0; k < 8; k++) {
+            better(bit(11), "177; 4; 54 " + k + "; 0", "177; 4; 87; 0", 11, 1);
+        }
     }
 
     /** "live before one to which that goes on or jumps .. or that a catch has before whose AT it is live". */

@@ -23,6 +23,7 @@ public final class EdgeRunTest {
         whatStays();
         stages();
         arguments();
+        eightArrays();
         refusedRuns();
         results();
         answersOfTheStage();
@@ -564,6 +565,22 @@ public final class EdgeRunTest {
                 x.argument(1);
             }
             Kit.due(n + " for four", x.run(1, 100), n == 4 ? 0 : -2);
+        }
+    }
+
+    /** Eight arguments for ints, each of them looked at. */
+    private static void eightArrays() {
+        CodeFoundry x = Kit.staged(klass("([I[I[I[I[I[I[I[I)[I", 1, 8, "25 7; 176").method("n", "()[I", 1, 0,
+                "3; 188 10; 176").method("first", "([IIIIIIII)[I", 1, 8, "42; 176"));
+        run(x, 1, 0, 1);
+        run(x, 0, 0, 1, 0, 0, 0, 0, 0, 0, 0, 1);
+        run(x, 0, 0, 0, 1, 1, 1, 1, 1, 1, 1, 0);
+        run(x, 2, 0, 1, 1, 9, 9, 9, 9, 9, 9, 9);
+        for (int wrong = 0; wrong < 8; wrong++) {
+            for (int k = 0; k < 8; k++) {
+                x.argument(k == wrong ? 2 : 1);
+            }
+            Kit.due("argument " + wrong + " is no array", x.run(0, 10), -2);
         }
     }
 

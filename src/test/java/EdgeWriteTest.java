@@ -11,6 +11,7 @@ public final class EdgeWriteTest {
         gotos();
         switches();
         equalOnesOnce();
+        equalOnesOnceInAnyRoom();
         order();
         leastStack();
         leastLocals();
@@ -304,6 +305,17 @@ public final class EdgeWriteTest {
     private static void ordered(Kit.Klass k, String want) {
         String got = pool(k);
         Kit.due(got + ", due is " + want, got.equals(want), true);
+    }
+
+    /** The same, however many bytes the pool has when an entry is wanted again. */
+    private static void equalOnesOnceInAnyRoom() {
+        for (int letters = 1; letters <= 100; letters++) {
+            Kit.Klass k = new Kit.Klass("n".repeat(letters), "Top").method("m", "()V", 2, 0,
+                    "19 int:70000; 87; 19 int:70000; 87; 20 long:9; 88; 20 long:9; 88; 177");
+            byte[] b = Kit.written(Kit.checked(k), 0);
+            // Code, two names and classes, m, ()V, the int, the long
+            Kit.due("the pool", u2(b, 8), 1 + 7 + 1 + 2);
+        }
     }
 
     /** "each entry behind those that it points to, in the order in which they are first needed". */
